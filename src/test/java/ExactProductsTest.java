@@ -156,8 +156,8 @@ public final class ExactProductsTest {
         Bench.dueProduct("one row of 0s", b, new long[65]);
         Random random = new Random(6);
         for (int round = 0; round < 200; round++) {
-            long[] x = new long[1 + random.nextInt(64)];
-            long[] y = new long[1 + random.nextInt(64)];
+            long[] x = new long[round == 0 ? 64 : 1 + random.nextInt(64)];
+            long[] y = new long[round == 0 ? 64 : 1 + random.nextInt(64)];
             for (int i = 0; i < x.length; i++) {
                 x[i] = random.nextInt(5001) - 2500;
             }

@@ -213,7 +213,7 @@ public final class FitsAndDoublesTest {
         for (int round = 0; round < 400; round++) {
             double[][] rows = new double[2][];
             for (int r = 0; r < 2; r++) {
-                rows[r] = new double[1 + random.nextInt(round % 10 == 0 ? 64 : 12)];
+                rows[r] = new double[round < 4 ? 64 : 1 + random.nextInt(round % 10 == 0 ? 64 : 12)];
                 for (int i = 0; i < rows[r].length; i++) {
                     rows[r][i] = randomDouble(random, round % 4);
                 }

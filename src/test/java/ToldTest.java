@@ -2,6 +2,8 @@
 public final class ToldTest {
     public static void main(String[] args) {
         fault();
+        faultIsGoneBehindAnAnswer();
+        faultIsGoneBehindARefusal();
         told();
         constants();
         Check.end();
@@ -34,6 +36,68 @@ public final class ToldTest {
         b.series(2, 0, 1);
         b.times(0);
         Check.due("fault() behind STATE", b.fault(), 0);
+    }
+
+    private static void gone(String call, ConvolutionBench b, boolean answered) {
+        Check.holds(call + " is answered", answered);
+        Check.due("fault() behind " + call, b.fault(), 0);
+        b.at(11, 0);
+        Check.due("fault() behind at(11, 0)", b.fault(), 1);
+    }
+
+    /** Each call that names faults and comes to none. */
+    private static void faultIsGoneBehindAnAnswer() {
+        ConvolutionBench b = new ConvolutionBench();
+        Bench.fill(b, 0, Bench.INTS, 1, 2);
+        b.at(11, 0);
+        gone("row", b, b.row(1, 0, 2) == 1);
+        gone("put", b, b.put(1, 0, 1) == 1);
+        gone("at", b, b.at(1, 0) == 1);
+        gone("as", b, b.as(1, 0, 0) == 1);
+        gone("reverse", b, b.reverse(1) == 1);
+        gone("shift", b, b.shift(1, 1) == 1);
+        gone("root", b, b.root(0, 1) == 1);
+        gone("transform", b, b.transform(0, 0) == 2);
+        gone("times", b, b.times(0) == 2);
+        gone("multiply", b, b.multiply(0, 0, 1) == 3);
+        gone("circular", b, b.circular(0, 0, 2) == 2);
+        gone("correlate", b, b.correlate(0, 0) == 3);
+        gone("slide", b, b.slide(0, 1) == 2);
+        gone("power", b, b.power(0, 0, 2, 3) == 3);
+        gone("series", b, b.series(0, 0, 2) == 2);
+        gone("divide", b, b.divide(0, 0, 0) == 1);
+        gone("evaluate", b, b.evaluate(0, 0, 0) == 2);
+        gone("interpolate", b, b.interpolate(0, 0, 0) == 2);
+        gone("match", b, b.match(0, 0, 0) == 1);
+        gone("real", b, b.real(0, 0) == 3);
+    }
+
+    /** Each call that names faults, refused because there is no such place or prime. */
+    private static void faultIsGoneBehindARefusal() {
+        ConvolutionBench b = new ConvolutionBench();
+        b.at(11, 0);
+        gone("row", b, b.row(12, 0, 2) == -1);
+        gone("put", b, b.put(12, 0, 1) == -1);
+        gone("at", b, b.at(12, 0) == 0);
+        gone("as", b, b.as(12, 0, 0) == 0);
+        gone("as", b, b.as(0, 0, 5) == 0);
+        gone("reverse", b, b.reverse(12) == -1);
+        gone("shift", b, b.shift(12, 1) == -1);
+        gone("root", b, b.root(3, 1) == 0);
+        gone("root", b, b.root(0, 0) == 0);
+        gone("transform", b, b.transform(0, 3) == -1);
+        gone("times", b, b.times(12) == -1);
+        gone("multiply", b, b.multiply(0, 12, 1) == -1);
+        gone("circular", b, b.circular(0, 12, 2) == -1);
+        gone("correlate", b, b.correlate(0, 12) == -1);
+        gone("slide", b, b.slide(12, 1) == -1);
+        gone("power", b, b.power(0, 3, 2, 3) == -1);
+        gone("series", b, b.series(0, 3, 2) == -1);
+        gone("divide", b, b.divide(0, 0, 3) == -1);
+        gone("evaluate", b, b.evaluate(0, 0, 3) == -1);
+        gone("interpolate", b, b.interpolate(0, 0, 3) == -1);
+        gone("match", b, b.match(0, 12, 0) == -1);
+        gone("real", b, b.real(0, 12) == -1);
     }
 
     private static void askWhatNamesNone(ConvolutionBench b) {

@@ -118,6 +118,13 @@ public final class TransformsTest {
             Bench.dueSpectrum("what refusals leave", b, want);
             Check.due("told(1)", b.told(1), prime);
         }
+        b.row(5, Bench.BYTES, 64);
+        b.put(5, 0, 3);
+        b.transform(5, 0);
+        Check.due("times(5) of 64", b.times(5), 64);
+        long[] nines = new long[64];
+        java.util.Arrays.fill(nines, 9);
+        Bench.dueSpectrum("of 64", b, nines);
     }
 
     private static void value() {
