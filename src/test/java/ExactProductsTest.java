@@ -15,6 +15,7 @@ public final class ExactProductsTest {
         highAndLow();
         carry();
         carryEdges();
+        carryOfLongOnes();
         cost();
         plan();
         Check.end();
@@ -69,33 +70,29 @@ public final class ExactProductsTest {
         return row;
     }
 
+    private static void dueProductBy(int way, long[] x, long[] y) {
+        ConvolutionBench b = new ConvolutionBench();
+        Bench.fill(b, 0, Bench.INTS, x);
+        Bench.fill(b, 1, Bench.INTS, y);
+        Bench.dueFault("multiply by way " + way, b, b.multiply(0, 1, way), x.length + y.length - 1, 0);
+        dueEntries("by way " + way, b, productOf(x, y));
+    }
+
     private static void multiply() {
         Random random = new Random(5);
         for (int round = 0; round < 300; round++) {
-            ConvolutionBench b = new ConvolutionBench();
-            int n = 1 + random.nextInt(64);
-            int m = 1 + random.nextInt(64);
-            long[] x = randomInts(random, n);
-            long[] y = randomInts(random, m);
-            Bench.fill(b, 0, Bench.INTS, x);
-            Bench.fill(b, 1, Bench.INTS, y);
-            for (int way = 0; way <= 2; way += 2) {
-                Bench.dueFault("multiply by way " + way, b, b.multiply(0, 1, way), n + m - 1, 0);
-                dueEntries("by way " + way, b, productOf(x, y));
-            }
+            long[] x = randomInts(random, 1 + random.nextInt(64));
+            long[] y = randomInts(random, 1 + random.nextInt(64));
+            dueProductBy(0, x, y);
+            dueProductBy(2, x, y);
         }
         long[] least = same(64, Integer.MIN_VALUE);
         long[] most = same(64, Integer.MAX_VALUE);
         long[][] pairs = {least, most};
         for (long[] x : pairs) {
             for (long[] y : pairs) {
-                ConvolutionBench b = new ConvolutionBench();
-                Bench.fill(b, 0, Bench.INTS, x);
-                Bench.fill(b, 1, Bench.INTS, y);
-                for (int way = 0; way <= 2; way += 2) {
-                    Check.due("the greatest by way " + way, b.multiply(0, 1, way), 127);
-                    dueEntries("the greatest by way " + way, b, productOf(x, y));
-                }
+                dueProductBy(0, x, y);
+                dueProductBy(2, x, y);
             }
         }
         ConvolutionBench b = new ConvolutionBench();
@@ -252,9 +249,9 @@ public final class ExactProductsTest {
             for (int i = 0; i < x.length; i++) {
                 x[i] = random.nextInt(3) == 0 ? Long.MIN_VALUE : random.nextInt(3) == 0 ? Long.MAX_VALUE : random.nextLong();
             }
-            ConvolutionBench b = new ConvolutionBench();
-            Bench.fill(b, 0, Bench.LONGS, x);
-            for (int w = 1; w <= 64; w += 1 + random.nextInt(5)) {
+            for (int w = 1; w <= 64; w += 1 + random.nextInt(9)) {
+                ConvolutionBench b = new ConvolutionBench();
+                Bench.fill(b, 0, Bench.LONGS, x);
                 BigInteger[] want = zeros(Math.max(0, x.length - w + 1));
                 for (int i = 0; i < want.length; i++) {
                     for (int j = 0; j < w; j++) {
@@ -338,10 +335,10 @@ public final class ExactProductsTest {
             for (int i = 0; i < n; i++) {
                 x[i] = random.nextInt(3) == 0 ? 0 : random.nextInt(Integer.MAX_VALUE) >> random.nextInt(31);
             }
-            ConvolutionBench b = new ConvolutionBench();
-            Bench.fill(b, 0, Bench.INTS, x);
-            b.multiply(0, 0, 0);
             for (int base : bases) {
+                ConvolutionBench b = new ConvolutionBench();
+                Bench.fill(b, 0, Bench.INTS, x);
+                b.multiply(0, 0, 0);
                 BigInteger number = BigInteger.ZERO;
                 BigInteger[] entries = productOf(x, x);
                 for (int k = entries.length - 1; k >= 0; k--) {
@@ -374,7 +371,11 @@ public final class ExactProductsTest {
         Bench.fill(b, 0, Bench.LONGS, new long[64]);
         b.slide(0, 1);
         dueDigits(b, 2, BigInteger.ZERO);
+    }
+
+    private static void carryOfLongOnes() {
         // A number of just 64 digits, and the next one, of 65.
+        ConvolutionBench b = new ConvolutionBench();
         long[] ones = same(64, 1);
         Bench.fill(b, 0, Bench.LONGS, ones);
         b.slide(0, 1);
@@ -390,6 +391,7 @@ public final class ExactProductsTest {
         b.multiply(0, 0, 2);
         dueDigits(b, 2, BigInteger.ONE.shiftLeft(62));
         // The greatest that there is.
+        b = new ConvolutionBench();
         Bench.fill(b, 0, Bench.INTS, same(64, Integer.MIN_VALUE));
         b.circular(0, 0, 1);
         dueDigits(b, 10, BigInteger.ONE.shiftLeft(74));
@@ -401,9 +403,8 @@ public final class ExactProductsTest {
     }
 
     private static void cost() {
-        ConvolutionBench b = new ConvolutionBench();
-        b.at(0, 0);
         for (int n = 1; n <= 64; n++) {
+            ConvolutionBench b = new ConvolutionBench();
             for (int m = 1; m <= 64; m++) {
                 int l = 0;
                 while (Math.pow(2, l) < n + m - 1) {
@@ -416,6 +417,8 @@ public final class ExactProductsTest {
                 Check.due("cost(2, n, m)", b.cost(2, n, m), 3 * one + 6 * (n + m - 1));
             }
         }
+        ConvolutionBench b = new ConvolutionBench();
+        b.at(0, 0);
         Check.due("cost(1, 1, 1)", b.cost(1, 1, 1), 2);
         Check.due("cost(2, 1, 1)", b.cost(2, 1, 1), 12);
         Check.due("cost(1, 2, 1)", b.cost(1, 2, 1), 7);
@@ -433,13 +436,14 @@ public final class ExactProductsTest {
     }
 
     private static void plan() {
-        ConvolutionBench b = new ConvolutionBench();
-        b.at(0, 0);
         for (int n = 1; n <= 64; n++) {
+            ConvolutionBench c = new ConvolutionBench();
             for (int m = 1; m <= 64; m++) {
-                Check.due("plan(n, m)", b.plan(n, m), b.cost(2, n, m) < b.cost(0, n, m) ? 2 : 0);
+                Check.due("plan(n, m)", c.plan(n, m), c.cost(2, n, m) < c.cost(0, n, m) ? 2 : 0);
             }
         }
+        ConvolutionBench b = new ConvolutionBench();
+        b.at(0, 0);
         Check.due("plan(0, 1)", b.plan(0, 1), -2);
         Check.due("plan(1, 0)", b.plan(1, 0), -2);
         Check.due("plan(65, 1)", b.plan(65, 1), -2);

@@ -101,14 +101,16 @@ public final class RowsTest {
             Long.MAX_VALUE, Long.MIN_VALUE, 0x7ff0000000000000L, 0xfff0000000000000L, 0x7ff0000000000001L,
             0xfff8000000000000L, 0x7fffffffffffffffL, 0x8000000000000000L, 0x123456789abcdefL, 1L};
         for (int lane = 0; lane < 5; lane++) {
-            b.row(lane, lane, 3);
+            ConvolutionBench c = new ConvolutionBench();
+            c.row(lane, lane, 3);
             for (long v : given) {
-                Bench.dueFault("put(" + lane + ", 1, " + v + ")", b, b.put(lane, 1, v), 1, 0);
+                Bench.dueFault("put(" + lane + ", 1, " + v + ")", c, c.put(lane, 1, v), 1, 0);
                 long want = lane == 0 ? (byte) v : lane == 1 ? (short) v : lane == 2 ? (int) v : lane == 3 ? v
                     : Double.doubleToLongBits(Double.longBitsToDouble(v));
-                Bench.dueRow("behind put " + v, b, lane, lane, 0, want, 0);
+                Bench.dueRow("behind put " + v, c, lane, lane, 0, want, 0);
             }
         }
+        Bench.fill(b, 0, 0, 0, 1, 0);
         Bench.dueFault("put(0, 3, 1)", b, b.put(0, 3, 1), Bench.INDEX, 3);
         Bench.dueFault("put(0, -1, 1)", b, b.put(0, -1, 1), Bench.INDEX, 3);
         Bench.dueFault("put(0, MIN, 1)", b, b.put(0, Integer.MIN_VALUE, 1), Bench.INDEX, 3);
@@ -182,11 +184,12 @@ public final class RowsTest {
         Bench.dueRow("around and one on", b, 0, 2, 1, 2, 3, 4, 5);
         int[] far = {Integer.MAX_VALUE, Integer.MIN_VALUE, Integer.MIN_VALUE + 1};
         for (int n = 1; n <= 64; n++) {
+            ConvolutionBench c = new ConvolutionBench();
             for (int k : far) {
-                b.row(1, 3, n);
-                b.put(1, 0, 1);
-                Check.due("shift(1, " + k + ")", b.shift(1, k), 1);
-                Check.due("shifted by " + k + " of " + n, b.at(1, Math.floorMod(k, n)), 1);
+                c.row(1, 3, n);
+                c.put(1, 0, 1);
+                Check.due("shift(1, " + k + ")", c.shift(1, k), 1);
+                Check.due("shifted by " + k + " of " + n, c.at(1, Math.floorMod(k, n)), 1);
             }
         }
         Bench.dueFault("shift(2, 1)", b, b.shift(2, 1), Bench.NULL, 1);
