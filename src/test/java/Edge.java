@@ -32,9 +32,13 @@ final class Edge {
         NULL, SIZE;
 
         int meet(ConvolutionBench b) {
-            long met = this == NULL ? b.at(KnownState.NOTHING, 0) : b.row(0, 0, -1);
+            if (this == NULL) {
+                Check.due("the call ahead", b.at(KnownState.NOTHING, 0), 0);
+            } else {
+                Check.due("the call ahead", b.row(0, 0, -1), -14);
+            }
             int fault = this == NULL ? 1 : 4;
-            Check.due("the fault ahead", b.fault() * 100L + met, fault * 100L + (this == NULL ? 0 : -14));
+            Check.due("the fault ahead", b.fault(), fault);
             return fault;
         }
     }

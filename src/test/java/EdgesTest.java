@@ -19,7 +19,12 @@ public final class EdgesTest {
         PrimeEdges.look();
         FitEdges.look();
         ToldEdges.look();
-        eachWordIsSeen(Files.readString(Path.of(args[0], "..", "shared", "DOC.md")));
+        Path document = Path.of(args[0], "..", "shared", "DOC.md");
+        if (Files.exists(document)) {
+            eachWordIsSeen(Files.readString(document));
+        } else {
+            System.out.println("there is no " + document + ": its words are not looked for");
+        }
         Check.end();
     }
 
