@@ -1,7 +1,11 @@
 import java.lang.reflect.Method;
+import java.lang.reflect.Modifier;
 import java.util.Arrays;
 import java.util.HashMap;
 import java.util.Map;
+import java.util.Set;
+import java.util.TreeSet;
+import java.util.stream.Collectors;
 
 /** Calls told as data: the same one can be printed, and asked of the class and of the reference. */
 final class Calls {
@@ -46,6 +50,12 @@ final class Calls {
         return Arrays.stream(ConvolutionBench.class.getMethods())
             .filter(method -> method.getName().equals(name))
             .findFirst().orElseThrow(() -> new IllegalStateException("no call " + name));
+    }
+
+    static Set<String> namesOfFace() {
+        return Arrays.stream(ConvolutionBench.class.getDeclaredMethods())
+            .filter(method -> Modifier.isPublic(method.getModifiers()))
+            .map(Method::getName).collect(Collectors.toCollection(TreeSet::new));
     }
 
     static boolean answersLong(String name) {
