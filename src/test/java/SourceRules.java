@@ -1,4 +1,3 @@
-import com.sun.source.tree.AssertTree;
 import com.sun.source.tree.BinaryTree;
 import com.sun.source.tree.ClassTree;
 import com.sun.source.tree.CompilationUnitTree;
@@ -6,17 +5,12 @@ import com.sun.source.tree.CompoundAssignmentTree;
 import com.sun.source.tree.DoWhileLoopTree;
 import com.sun.source.tree.ExpressionTree;
 import com.sun.source.tree.ForLoopTree;
-import com.sun.source.tree.LambdaExpressionTree;
-import com.sun.source.tree.MemberReferenceTree;
 import com.sun.source.tree.MethodInvocationTree;
 import com.sun.source.tree.MethodTree;
 import com.sun.source.tree.NewArrayTree;
 import com.sun.source.tree.NewClassTree;
-import com.sun.source.tree.SynchronizedTree;
-import com.sun.source.tree.ThrowTree;
 import com.sun.source.tree.Tree;
 import com.sun.source.tree.Tree.Kind;
-import com.sun.source.tree.TryTree;
 import com.sun.source.tree.UnaryTree;
 import com.sun.source.tree.VariableTree;
 import com.sun.source.tree.WhileLoopTree;
@@ -52,6 +46,13 @@ final class SourceRules extends TreePathScanner<Void, Void> {
 
     private static final Set<Kind> ON_DOUBLES = Set.of(Kind.PLUS, Kind.MINUS, Kind.MULTIPLY, Kind.DIVIDE, Kind.EQUAL_TO,
         Kind.NOT_EQUAL_TO, Kind.LESS_THAN, Kind.LESS_THAN_EQUAL, Kind.GREATER_THAN, Kind.GREATER_THAN_EQUAL);
+
+    /** What the language has and no part of the class may have, by the rule that leaves it out. */
+    private static final Map<Kind, Integer> LEFT_OUT = Map.of(Kind.LAMBDA_EXPRESSION, 2, Kind.MEMBER_REFERENCE, 2,
+        Kind.THROW, 6, Kind.TRY, 6, Kind.SYNCHRONIZED, 6, Kind.ASSERT, 6);
+
+    private static final Set<Kind> LOOPS =
+        Set.of(Kind.FOR_LOOP, Kind.ENHANCED_FOR_LOOP, Kind.WHILE_LOOP, Kind.DO_WHILE_LOOP);
 
     /** The calls that give a place a new row; nothing else makes anything once an object stands. */
     private static final Set<String> MAKERS = Set.of("row", "inverse", "carry");
@@ -220,30 +221,34 @@ final class SourceRules extends TreePathScanner<Void, Void> {
     // ---- what is done inside methods
 
     @Override
+    public Void scan(Tree tree, Void nothing) {
+        Kind kind = tree == null ? Kind.OTHER : tree.getKind();
+        if (LEFT_OUT.containsKey(kind)) {
+            rule(LEFT_OUT.get(kind), tree, false);
+        }
+        int around = loops;
+        loops += LOOPS.contains(kind) ? 1 : 0;
+        super.scan(tree, nothing);
+        loops = around;
+        return null;
+    }
+
+    @Override
     public Void visitForLoop(ForLoopTree tree, Void nothing) {
         rule(9, tree, tree.getCondition() != null && tree.getCondition().getKind() != Kind.BOOLEAN_LITERAL);
-        loops++;
-        super.visitForLoop(tree, nothing);
-        loops--;
-        return null;
+        return super.visitForLoop(tree, nothing);
     }
 
     @Override
     public Void visitWhileLoop(WhileLoopTree tree, Void nothing) {
         rule(9, tree, isBounded(tree.getCondition()));
-        loops++;
-        super.visitWhileLoop(tree, nothing);
-        loops--;
-        return null;
+        return super.visitWhileLoop(tree, nothing);
     }
 
     @Override
     public Void visitDoWhileLoop(DoWhileLoopTree tree, Void nothing) {
         rule(9, tree, isBounded(tree.getCondition()));
-        loops++;
-        super.visitDoWhileLoop(tree, nothing);
-        loops--;
-        return null;
+        return super.visitDoWhileLoop(tree, nothing);
     }
 
     /** A loop without a counter of its own tells its bound ahead of what else ends it. */
@@ -270,41 +275,5 @@ final class SourceRules extends TreePathScanner<Void, Void> {
     public Void visitCompoundAssignment(CompoundAssignmentTree tree, Void nothing) {
         rule(3, tree, !isFloating(typeOf(tree.getVariable())));
         return super.visitCompoundAssignment(tree, nothing);
-    }
-
-    @Override
-    public Void visitLambdaExpression(LambdaExpressionTree tree, Void nothing) {
-        rule(2, tree, false);
-        return super.visitLambdaExpression(tree, nothing);
-    }
-
-    @Override
-    public Void visitMemberReference(MemberReferenceTree tree, Void nothing) {
-        rule(2, tree, false);
-        return super.visitMemberReference(tree, nothing);
-    }
-
-    @Override
-    public Void visitThrow(ThrowTree tree, Void nothing) {
-        rule(6, tree, false);
-        return super.visitThrow(tree, nothing);
-    }
-
-    @Override
-    public Void visitTry(TryTree tree, Void nothing) {
-        rule(6, tree, false);
-        return super.visitTry(tree, nothing);
-    }
-
-    @Override
-    public Void visitSynchronized(SynchronizedTree tree, Void nothing) {
-        rule(6, tree, false);
-        return super.visitSynchronized(tree, nothing);
-    }
-
-    @Override
-    public Void visitAssert(AssertTree tree, Void nothing) {
-        rule(6, tree, false);
-        return super.visitAssert(tree, nothing);
     }
 }
